@@ -125,6 +125,7 @@ public final class HeatGovernor {
         if (!chip.isJoined() || !chip.isSteady()) {
             return false;
         }
+        // Nodes and cores can't be seen before it is sealed, so a refusal may leave them begun.
         nodes.begin(chip);
         cores.begin();
         sealed = outlook.isSafe(nodes.bounds, cores.steps);
@@ -219,6 +220,7 @@ public final class HeatGovernor {
     }
 
     public void open() {
+        // What nodes and cores are like begins anew with the sealing.
         chip.reset();
         sealed = false;
     }
@@ -396,10 +398,11 @@ public final class HeatGovernor {
 
         private int worstInflow(int n, int[] bounds) {
             int inflow = 0;
+            int row = between(n, 0);
             for (int other = 0; other < PLACES; other++) {
                 int difference = bounds[other] - bounds[n];
                 int[] edges = difference > 0 ? highEdges : lowEdges;
-                inflow += edges[between(n, other)] * difference;
+                inflow += edges[row + other] * difference;
             }
             return inflow;
         }
@@ -432,30 +435,17 @@ public final class HeatGovernor {
 
         boolean isSafe(int[] bounds, int[] steps) {
             System.arraycopy(bounds, 0, trial, 0, PLACES);
-            return chip.keepsLimits(trial) && staysBelowWhileHeld(steps) && calmsDown();
-        }
-
-        private boolean staysBelowWhileHeld(int[] steps) {
-            for (int i = 0; i < HOLD_TICKS; i++) {
+            boolean below = chip.keepsLimits(trial);
+            for (int i = 0; i < HOLD_TICKS && below; i++) {
                 chip.boundTick(trial, steps);
-                if (!chip.keepsLimits(trial)) {
-                    return false;
-                }
+                below = chip.keepsLimits(trial);
             }
-            return true;
-        }
-
-        private boolean calmsDown() {
-            for (int i = 0; i < CALM_TICKS; i++) {
-                boolean grew = chip.boundTick(trial, idle);
-                if (!grew) {
-                    return true;
-                }
-                if (!chip.keepsLimits(trial)) {
-                    return false;
-                }
+            boolean growing = true;
+            for (int i = 0; i < CALM_TICKS && below && growing; i++) {
+                growing = chip.boundTick(trial, idle);
+                below = chip.keepsLimits(trial);
             }
-            return false;
+            return below && !growing;
         }
     }
 

@@ -1,5 +1,6 @@
 /**
- * Runs of calls on new objects. A line is a call and, behind "->", its answer; a line without one is
+ * Runs of calls on new objects, of HeatGovernor and, so that no answer is due by mistake, of
+ * PlainGovernor. A line is a call and, behind "->", its answer; a line without one is
  * a void call that must be done. What stands behind "#" is a remark.
  */
 final class Runs {
@@ -22,7 +23,11 @@ final class Runs {
     }
 
     void run(String title, String... scripts) {
-        HeatGovernor governor = new HeatGovernor();
+        runOn(new HeatGovernor(), title, scripts);
+        runOn(new PlainGovernor(), title + " (by PlainGovernor)", scripts);
+    }
+
+    private void runOn(Object governor, String title, String... scripts) {
         int number = 0;
         for (String line : String.join("\n", scripts).split("\n")) {
             String row = line.replaceAll("#.*", "").trim();
