@@ -348,7 +348,7 @@ public final class HeatGovernor {
             return all;
         }
 
-        /** Whether no node can be moved by more than half of what pulls at it in one tick. */
+        /** Whether each node is slow enough for what pulls at it, so that a tick never overshoots. */
         boolean isSteady() {
             for (int n = 0; n < NODES; n++) {
                 int pull = n < CORES ? leakSlope + leakSteep : 0;

@@ -252,6 +252,12 @@ public final class GrantTest {
                 ahead 1 -> true
                 ahead 2 -> false
                 """);
+        // Up by 30, 27, 25, 22, 20, 18, 16 and 15 to 5173, and by the first tick of step 0 down to 5156.
+        String brief = "edge 0 6 100 100\n";
+        RUNS.run("above the limit at the end of the eight ticks alone", TENS, brief, "limit 0 5172", "seal -> true",
+                "ahead 3 -> false");
+        RUNS.run("at the limit at the end of the eight ticks", TENS, brief, "limit 0 5173", "seal -> true", "ahead 3 -> true",
+                "ask 0 3 0", "period -> 0", "draw 0 30000", "tick 8 -> 8", "node 0 1 -> 5173", "tick 1 -> 0", "node 0 1 -> 5156");
         // Core 0 goes up to 5000 by one a tick: from 4743 in 8 and 249 ticks, and one more has none that grows.
         RUNS.run("one that does not grow must come within 250 ticks", Runs.STAR, """
                 capacity 0 10000 10000

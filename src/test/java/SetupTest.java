@@ -108,6 +108,8 @@ public final class SetupTest {
         String ranged = "edge 0 1 10 20\n";
         RUNS.run("edge: the true one is low", Runs.STAR, ranged, twoTicks, "node 1 0 -> 5001", "node 1 1 -> 5002",
                 "node 0 0 -> 5198", "node 0 1 -> 5199");
+        RUNS.run("edge: the same from its other end", Runs.STAR, ranged, twoTicks.replace("ask 0", "ask 1").replace("draw 0", "draw 1"), "node 0 0 -> 5001",
+                "node 0 1 -> 5002", "node 1 0 -> 5198", "node 1 1 -> 5199");
         RUNS.run("edge: low again after a truth", Runs.STAR, ranged, "truth 0 1 20", ranged, twoTicks,
                 "node 1 0 -> 5001", "node 0 0 -> 5198");
         RUNS.run("truth: the true conductance", Runs.STAR, ranged, "truth 1 0 20", twoTicks, "node 1 0 -> 5002",
