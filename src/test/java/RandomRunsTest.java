@@ -13,6 +13,7 @@ public final class RandomRunsTest {
     private PlainGovernor plain;
     private final List<String> calls = new ArrayList<>();
     private int seals = 0;
+    private int extremeSeals = 0;
     private int refusals = 0;
     private int grantedAll = 0;
     private int grantedLess = 0;
@@ -37,10 +38,13 @@ public final class RandomRunsTest {
         governor = new HeatGovernor();
         plain = new PlainGovernor();
         calls.clear();
+        boolean extreme = run % 4 == 3;
         while (calls.size() < CALLS) {
-            if (!buildAndSeal(run)) {
+            boolean built = extreme ? buildExtreme(run) : buildAndSeal(run);
+            if (!built) {
                 call(run, "open");
             } else {
+                extremeSeals += extreme ? 1 : 0;
                 int events = 5 + random.nextInt(60);
                 for (int i = 0; i < events; i++) {
                     event(run);
@@ -91,6 +95,40 @@ public final class RandomRunsTest {
             call(run, "truth " + n + " " + (random.nextBoolean() ? n : random.nextInt(7)) + " " + random.nextInt(1000));
         }
         return sealSomehow(run);
+    }
+
+    /** A package of the least and the greatest numbers that are taken, and of the next ones on both sides. */
+    private boolean buildExtreme(int run) {
+        boolean roomy = random.nextInt(3) > 0;
+        for (int n = 0; n < 6; n++) {
+            int high = roomy ? 10000 - random.nextInt(2) : extreme(1, 10000);
+            call(run, "capacity " + n + " " + (roomy ? high - random.nextInt(3) : extreme(1, 10000)) + " " + high);
+            call(run, "limit " + n + " " + (roomy ? 50000 - random.nextInt(2) : extreme(0, 50000)));
+            call(run, "edge " + n + " 6 " + extreme(0, 500) + " " + (roomy ? 500 : extreme(0, 500)));
+            call(run, "truth " + n + " 6 " + extreme(0, 500));
+            call(run, "truth " + n + " " + n + " " + extreme(1, 10000));
+        }
+        for (int i = random.nextInt(6); i > 0; i--) {
+            String ends = random.nextInt(7) + " " + random.nextInt(7);
+            call(run, "edge " + ends + " " + extreme(0, 500) + " " + extreme(0, 500));
+        }
+        int hot = random.nextBoolean() ? extreme(0, 50000) : random.nextInt(50000);
+        call(run, "air " + extreme(0, hot) + " " + extreme(0, hot) + " " + hot);
+        call(run, "air 0 " + random.nextInt(hot + 2) + " " + hot);
+        for (int step = 3; step >= 0; step--) {
+            call(run, "power " + step + " " + (step == 0 && roomy ? 0 : extreme(0, 1000000)));
+        }
+        if (random.nextInt(3) == 0) {
+            String slopes = extreme(0, 100) + " " + extreme(0, 100);
+            call(run, "leak " + extreme(0, 100000) + " " + slopes + " " + extreme(0, 50000));
+        }
+        return sealSomehow(run);
+    }
+
+    /** One of the ends, or a number beside one. */
+    private int extreme(int least, int most) {
+        int[] choices = {least, least, most, most, least + 1, most - 1, least - 1, most + 1};
+        return choices[random.nextInt(choices.length)];
     }
 
     private void edge(int run, int a, int b, int reach) {
@@ -185,11 +223,12 @@ public final class RandomRunsTest {
 
     /** The runs are worth little if they never come where the promises are told apart. */
     private void wasWorthIt() {
-        System.out.println("RandomRunsTest: sealed " + seals + ", not " + refusals + "; periods that gave all " + grantedAll
-                + ", less " + grantedLess + "; long waits " + longWaits + "; ahead safe " + safeAhead + ", not "
-                + unsafeAhead);
+        System.out.println("RandomRunsTest: sealed " + seals + ", of them extreme " + extremeSeals + ", not " + refusals
+                + "; periods that gave all " + grantedAll + ", less " + grantedLess + "; long waits " + longWaits
+                + "; ahead safe " + safeAhead + ", not " + unsafeAhead);
         int least = 100;
-        runs.same("enough of each kind seen", seals > least && refusals > least && grantedAll > least
-                && grantedLess > least && longWaits > least && safeAhead > least && unsafeAhead > least, true);
+        boolean worth = seals > least && extremeSeals > least && refusals > least && grantedAll > least
+                && grantedLess > least && longWaits > least && safeAhead > least && unsafeAhead > least;
+        runs.same("enough of each kind seen", worth, true);
     }
 }

@@ -4,15 +4,11 @@
  * a void call that must be done. What stands behind "#" is a remark.
  */
 final class Runs {
+    static final int CORES = 4;
+    static final int NODES = 6;
+
     /** Each node with an edge of its own to the air. */
-    static final String STAR = """
-            edge 0 6 1 1
-            edge 1 6 1 1
-            edge 2 6 1 1
-            edge 3 6 1 1
-            edge 4 6 1 1
-            edge 5 6 1 1
-            """;
+    static final String STAR = each(NODES, "edge % 6 1 1");
 
     private final String name;
     private int checked = 0;
@@ -20,6 +16,38 @@ final class Runs {
 
     Runs(String name) {
         this.name = name;
+    }
+
+    /** A row for each of so many nodes or cores, from 0 on, each in the place of "%". */
+    static String each(int count, String row) {
+        StringBuilder rows = new StringBuilder();
+        for (int i = 0; i < count; i++) {
+            rows.append(row.replace("%", Integer.toString(i))).append('\n');
+        }
+        return rows.toString();
+    }
+
+    /** The calls, each a row or several, as such that find no node, core, step or what. */
+    static String index(String... calls) {
+        return thrown("IndexOutOfBoundsException", calls);
+    }
+
+    /** The calls, each a row or several, as such of which a number is not within what is said. */
+    static String argument(String... calls) {
+        return thrown("IllegalArgumentException", calls);
+    }
+
+    /** The calls, each a row or several, as such that come too early or too late. */
+    static String state(String... calls) {
+        return thrown("IllegalStateException", calls);
+    }
+
+    private static String thrown(String exception, String... calls) {
+        StringBuilder rows = new StringBuilder();
+        for (String call : String.join("\n", calls).split("\n+")) {
+            rows.append(call).append(" -> throws.").append(exception).append('\n');
+        }
+        return rows.toString();
     }
 
     void run(String title, String... scripts) {
