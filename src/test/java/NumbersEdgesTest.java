@@ -254,6 +254,8 @@ public final class NumbersEdgesTest {
                 "power 2 9000", "power 1 9000", "power 0 9", "seal -> true", Runs.each(CORES, "core % 0 -> 0"),
                 Runs.each(CORES, "core % 1 -> -1"), Runs.each(CORES, "core % 3 -> 0"),
                 Runs.each(NODES, "node % 3 -> 5000"), "period -> 0", "tick 8 -> 0");
+        PROMISES.holds("It is as at first", "nothing goes over an edge that was", STAR, "edge 0 1 300 300", "open",
+                STAR, TWO_TICKS, "node 1 0 -> 5000", "node 1 1 -> 5000", "node 0 0 -> 5199");
         PROMISES.holds("It is as at first", "behind waiting", STAR, "power 3 9000", "power 2 9000", "power 1 9000",
                 "limit 0 5000", "seal -> true", "ask 0 1 0", "period -> 1", "core 0 2 -> 1", "open", STAR,
                 "seal -> true", "core 0 2 -> 0");

@@ -35,6 +35,8 @@ public final class TermsEdgesTest {
         sealing();
         wishes();
         granting();
+        order();
+        oneTurnEach();
         waiting();
         ticks();
         sensors();
@@ -173,6 +175,9 @@ public final class TermsEdgesTest {
         cooling(8, 125, 5007);
         cooling(7, 143, 5005);
         cooling(4, 500, 5002);
+        // The spreader gets 9 * 111 or 8 * 125 from core 0, which has been warmed in the tick before.
+        spreading(9, 111, 5000);
+        spreading(8, 125, 5001);
         String ranged = STAR + "power 3 1000\ncapacity 0 999 1001\n";
         String tick = "seal -> true\nask 0 3 0\ndraw 0 1000\nperiod -> 0\ntick 1 -> 1\n";
         TERMS.holds("heat / true capacity, rounded down", "of 1000", ranged, "truth 0 0 1000", tick,
@@ -217,6 +222,13 @@ public final class TermsEdgesTest {
                 "tick 1 -> 1", "node 0 0 -> " + (5000 + above), "period -> 0", "tick 1 -> 0", "node 0 0 -> " + due);
     }
 
+    private static void spreading(int above, int conductance, int due) {
+        TERMS.holds("its true temperature grows by heat / true capacity, rounded down",
+                "beside one " + above + " above by " + conductance, STAR, "edge 0 4 " + conductance + " " + conductance,
+                "power 3 9000", "seal -> true", "ask 0 3 0", "draw 0 " + above * 1000, "period -> 0", "tick 1 -> 1",
+                "node 0 0 -> " + (5000 + above), "tick 1 -> 1", "node 4 0 -> " + due);
+    }
+
     private static void boundTicks() {
         String words = "the conductance being the high one if that is above 0, and the low one if not";
         // The sensor brings the bound to 5000, with the air 1 above, as high, or below it; then it dies.
@@ -239,6 +251,9 @@ public final class TermsEdgesTest {
         rounding("heat for a degree", 1000, 5001);
         rounding("one more", 1001, 5002);
         String up = "The bound grows by heat / capacity, rounded up";
+        TERMS.holds(up, "of the spreader, by 1 from a core that is 1 above", STAR, "edge 0 4 1 1", "power 3 1000",
+                "seal -> true", "ask 0 3 0", "period -> 0", "tick 1 -> 1", "node 4 1 -> 5000", "tick 1 -> 1",
+                "node 4 1 -> 5001");
         // Above the air by 4, 2 and 1 it loses 2000, 1000 and 500; by 3 it loses 1500.
         String four = "power 3 4000\nseal -> true\n" + ALL_DEAD
                 + "ask 0 3 0\nperiod -> 0\ntick 1 -> 1\nnode 0 1 -> 5004\nperiod -> 0\n";
@@ -449,6 +464,52 @@ public final class TermsEdgesTest {
         TERMS.holds(words, "a wish for " + wish + " below " + limit, TENS, "limit 0 " + limit, "limit 3 5000",
                 "seal -> true", "ask 0 " + wish + " 0", "ask 3 1 9", "period -> " + (step < wish ? 9 : 8),
                 "core 0 0 -> " + step, "core 3 0 -> 0");
+    }
+
+    /** Three cores that wish for the three steps that there are, with the same rank and with others. */
+    private static void order() {
+        String words = "in order (greater rank first, then the one that WAITS longer, then the lesser number)";
+        String three = TENS + "edge 0 4 100 100\nedge 1 4 100 100\nedge 2 4 100 100\nedge 4 6 100 100\n"
+                + "limit 4 5047\nseal -> true\nahead 3 -> true\nahead 12 -> true\nahead 48 -> true\nahead 7 -> false\n";
+        for (int rank = 0; rank <= 9; rank++) {
+            String all = Runs.each(3, "ask % 3 " + rank);
+            TERMS.holds(words, "the same rank, " + rank, three, all, "period -> 6", "core 0 0 -> 3", waits(0, 1, 1),
+                    all, "period -> 5", "core 1 0 -> 3", waits(1, 0, 2), all, "period -> 3", "core 2 0 -> 3",
+                    waits(2, 1, 0), all, "period -> 6", "core 0 0 -> 3", waits(0, 2, 1));
+        }
+        for (int rank = 0; rank < 9; rank++) {
+            String all = Runs.each(3, "ask % 3 " + rank);
+            TERMS.holds(words, "one more than " + rank, three, all, "period -> 6", all, "period -> 5", all,
+                    "ask 0 3 " + (rank + 1), "period -> 6", "core 0 0 -> 3", waits(0, 1, 3));
+        }
+    }
+
+    /** Core 3 is known to be cold in hot air: it comes to rest within 250 ticks only if it is driven up. */
+    private static void oneTurnEach() {
+        String words = "safe with it, what was given before, and step 0 for the others";
+        String cold = STAR
+                + "capacity 3 10000 10000\nair 4000 4000 5000\nlimit 2 5000\npower 3 1000000\npower 2 500000\n"
+                + "power 1 500000\nseal -> true\n" + ALL_DEAD + "sensor 3 0 true\ntick 1 -> 0\nnode 3 1 -> 4200\n"
+                + "ahead 0 -> false\nahead 3 -> false\nahead 64 -> false\nahead 128 -> false\nahead 192 -> true\n"
+                + "ahead 195 -> true\n";
+        TERMS.holds(words, "what comes behind does not help", cold, "ask 0 3 9", "ask 3 3 5", "ask 2 3 0",
+                "period -> 5", "core 0 0 -> 0", "core 3 0 -> 3", "core 2 0 -> 0");
+        TERMS.holds(words, "what comes before does", cold, "ask 0 3 4", "ask 3 3 5", "ask 2 3 0", "period -> 4",
+                "core 0 0 -> 3", "core 3 0 -> 3", "core 2 0 -> 0");
+        TERMS.holds("the greatest step, not above its wish", "though no lesser one is safe", cold, "ask 3 3 0",
+                "ask 2 1 0", "period -> 4", "core 3 0 -> 3", "core 2 0 -> 0");
+        TERMS.holds("(step 0, if none is)", "though step 0 is not safe", cold, "ask 3 2 0", "period -> 8",
+                "core 3 0 -> 0");
+        TERMS.holds("(step 0, if none is)", "and a wish for it is met", cold, "ask 3 0 0", "period -> 0",
+                "core 3 0 -> 0", "core 3 2 -> 0");
+    }
+
+    private static String waits(int... waits) {
+        StringBuilder rows = new StringBuilder();
+        for (int k = 0; k < waits.length; k++) {
+            rows.append("core " + k + " 2 -> " + waits[k] + "\n");
+        }
+        return rows.toString();
     }
 
     private static void waiting() {
